@@ -1940,6 +1940,7 @@ public final class NightfallCouncil {
         private static final int LEAST_DUE = 10;
         private static final int EVEN_DUE = 50;
         private static final int MOST_DUE = 90;
+        private static final int NO_MEAN = Integer.MIN_VALUE;
         private final Ring ring;
         private final int[] good;
         private final int[] evil;
@@ -1975,7 +1976,7 @@ public final class NightfallCouncil {
             }
         }
 
-        /** The mean of the ratings of a side, or -1 if nobody has a card of it. */
+        /** The mean of the ratings of a side, or NO_MEAN if nobody has a card of it. */
         private int mean(boolean isEvil) {
             int sum = 0;
             int count = 0;
@@ -1985,11 +1986,11 @@ public final class NightfallCouncil {
                     count++;
                 }
             }
-            return count == 0 ? -1 : sum / count;
+            return count == 0 ? NO_MEAN : sum / count;
         }
 
         private static int dueOf(int before, int mean) {
-            if (mean < 0) {
+            if (mean == NO_MEAN) {
                 return EVEN_DUE;
             }
             return Math.max(LEAST_DUE, Math.min(MOST_DUE, EVEN_DUE + (before - mean) / 8));

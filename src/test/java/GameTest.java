@@ -216,7 +216,11 @@ public final class GameTest {
 
     /** Every call that needs a game, with arguments that are wrong, too. */
     private static void withoutGame() {
-        NightfallCouncil x = Table.roles("gs5e", "e-0e", "g-0e");
+        NightfallCouncil x = Table.roles("gs5e", "e-0e", "g-0e", "gs6e", "gs7e", "gk5e", "gn5e", "gl5e");
+        for (int role = 0; role < 8; role++) {
+            x.bag(role);
+        }
+        Due.is("ways are too many as well", x.ways(), 40320L);
         Due.fails("act", x, NO_GAME, () -> x.act(-1, 9, 9));
         Due.fails("night", x, NO_GAME, x::night);
         Due.fails("nominate", x, NO_GAME, () -> x.nominate(-1, 9));

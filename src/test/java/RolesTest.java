@@ -52,6 +52,7 @@ public final class RolesTest {
         }
         Due.fails("an 11th role", x, IllegalStateException.class, () -> x.role('g', 'l', 0, 'e'));
         Due.fails("an 11th role of no act", x, wrong, () -> x.role('g', 'q', 0, 'e'));
+        Due.fails("an 11th role of no order", x, wrong, () -> x.role('g', 'l', 10, 'e'));
         NightfallCouncil y = Table.game("gl0e", "gn9o", "e-0e");
         Due.fails("a role in a game", y, IllegalStateException.class, () -> y.role('g', 'l', 0, 'e'));
         Due.fails("a wrong role in a game", y, wrong, () -> y.role('g', 'l', 10, 'e'));

@@ -427,8 +427,8 @@ public final class WorldTest {
         Due.fails("claimed", x, MANY, () -> x.claimed(0));
         Due.fails("bluff", x, MANY, () -> x.bluff(0));
         Due.fails("meanWorlds", x, MANY, x::meanWorlds);
-        Due.fails("worlds of no seat", x, NONE, () -> x.worlds(8));
         Due.fails("chanceOf no role", x, NONE, () -> x.chanceOf(0, 0, 6));
+        wrongSeatsOfTooManyWays(x);
         Due.is("sound all the same", x.isSound(), true);
         NightfallCouncil y = Table.deal(Table.roles("ek5e", "gk6e", "g-0e", "g-0e"), true, false, 0, 1, 1, 1, 2, 2, 3, 3);
         Due.is("1680 ways are counted", Due.all(y::ways, y::openWorlds, () -> y.worlds(0), () -> y.worlds(1),
@@ -436,5 +436,33 @@ public final class WorldTest {
         NightfallCouncil z = Table.deal(Table.roles("ek5e", "gk6e", "g-0e", "g-0e"), true, false, 0, 0, 1, 1, 2, 2, 3, 3);
         Due.is("2520 are too many", z.ways(), 2520L);
         Due.fails("openWorlds of 2520", z, MANY, z::openWorlds);
+        deadOfTooManyWays();
+    }
+
+    /** A wrong seat is listed ahead of too many ways. */
+    private static void wrongSeatsOfTooManyWays(NightfallCouncil x) {
+        for (int seat : new int[] {-1, 8}) {
+            Due.fails("worlds of no seat", x, NONE, () -> x.worlds(seat));
+            Due.fails("chanceOf of no seat", x, NONE, () -> x.chanceOf(seat, 0, 0));
+            Due.fails("chanceOf of no other", x, NONE, () -> x.chanceOf(0, seat, 0));
+            Due.fails("evilChance of no seat", x, NONE, () -> x.evilChance(seat, 0));
+            Due.fails("evilChance of no other", x, NONE, () -> x.evilChance(0, seat));
+            Due.fails("knows of no seat", x, NONE, () -> x.knows(seat, 0));
+            Due.fails("knows of no other", x, NONE, () -> x.knows(0, seat));
+            Due.fails("bestVote of no seat", x, NONE, () -> x.bestVote(seat));
+            Due.fails("claimed of no seat", x, NONE, () -> x.claimed(seat));
+            Due.fails("bluff of no seat", x, NONE, () -> x.bluff(seat));
+        }
+    }
+
+    /** Too many ways are listed ahead of nobody who lives. */
+    private static void deadOfTooManyWays() {
+        NightfallCouncil x = Table.game("ek0e", "gk1e", "gk2e", "gk3e", "gk4e", "gk5e", "gk6e", "gk7e");
+        for (int seat = 0; seat < 8; seat++) {
+            x.act(seat, (seat + 1) % 8, 0);
+        }
+        Due.is("all die", x.night(), 8);
+        Due.fails("meanWorlds of the dead", x, MANY, x::meanWorlds);
+        Due.fails("bestVote of the dead", x, MANY, () -> x.bestVote(0));
     }
 }
