@@ -1,5 +1,3 @@
-import java.lang.reflect.InvocationTargetException;
-import java.lang.reflect.Method;
 import java.util.ArrayList;
 import java.util.Arrays;
 import java.util.List;
@@ -155,7 +153,7 @@ public final class ModelTest {
         if (name.equals("look")) {
             name = any(LOOK);
         }
-        Class<?>[] types = method(council, name).getParameterTypes();
+        Class<?>[] types = Calls.method(council, name).getParameterTypes();
         Object[] args = new Object[types.length];
         for (int i = 0; i < args.length; i++) {
             args[i] = types[i] == int.class ? (Object) number() : types[i] == char.class ? sign(name, i) : pick(2) == 0;
@@ -196,38 +194,13 @@ public final class ModelTest {
             return "no more calls";
         }
         calls.add(name + Arrays.toString(args));
-        Object got = answer(council, name, args);
-        Object want = answer(model, name, args);
+        Object got = Calls.answer(council, name, args);
+        Object want = Calls.answer(model, name, args);
         Due.is(name, got, want);
         if (!String.valueOf(got).equals(String.valueOf(want))) {
             System.out.println(String.join("\n", calls));
             System.exit(1);
         }
         return got;
-    }
-
-    private static Object answer(Object it, String name, Object[] args) {
-        try {
-            return method(it, name).invoke(it, args);
-        } catch (InvocationTargetException e) {
-            return e.getCause().getClass().getSimpleName();
-        } catch (IllegalAccessException e) {
-            throw new AssertionError(e);
-        }
-    }
-
-    private static Method method(Object it, String name) {
-        for (Method method : it.getClass().getDeclaredMethods()) {
-            boolean isOfFace = it instanceof Model || java.lang.reflect.Modifier.isPublic(method.getModifiers());
-            if (isOfFace && method.getName().equals(name) && !hasLists(method)) {
-                return method;
-            }
-        }
-        throw new AssertionError("no method " + name);
-    }
-
-    /** Model has helpers that bear the names of calls, and answer or take worlds. */
-    private static boolean hasLists(Method method) {
-        return List.class == method.getReturnType() || Arrays.asList(method.getParameterTypes()).contains(List.class);
     }
 }

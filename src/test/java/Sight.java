@@ -1,3 +1,6 @@
+import java.util.ArrayList;
+import java.util.List;
+
 /** All that can be seen of a council, as one text. */
 final class Sight {
     private Sight() {
@@ -37,6 +40,24 @@ final class Sight {
                 text.append(' ').append(x.worlds(seat)).append('/').append(x.claimed(seat));
             }
         }
+    }
+
+    /** The same thing of each seat. */
+    static String row(NightfallCouncil x, char what) {
+        List<Integer> row = new ArrayList<>();
+        for (int seat = 0; seat < seats(x); seat++) {
+            row.add(x.seat(seat, what));
+        }
+        return row.toString();
+    }
+
+    /** The same thing of each telling. */
+    static String told(NightfallCouncil x, char what) {
+        List<Integer> row = new ArrayList<>();
+        for (int telling = 0; telling < x.tellings(); telling++) {
+            row.add(x.telling(telling, what));
+        }
+        return row.toString();
     }
 
     static int seats(NightfallCouncil x) {
