@@ -42,11 +42,44 @@ final class Doc {
         return found;
     }
 
+    /** Tells the sentences of a promise that the tests behind them are about. */
+    static void promise(int number, String... sentences) {
+        for (String sentence : sentences) {
+            Due.is("promise " + number + " says '" + sentence + "'", linesOf(number).contains(sentence), true);
+            QUOTED.add(number + " " + sentence);
+        }
+    }
+
+    /** What each promise does and answers, and what its arguments can be, has a test that quotes it. */
+    static void allPromisesAreQuoted() {
+        for (int number = 1; number <= 47; number++) {
+            for (String line : linesOf(number)) {
+                boolean isPlainArgument = line.startsWith("`") && !line.contains(",") && !line.contains(";");
+                boolean isException = line.startsWith("Throws `");
+                if (!isPlainArgument && !isException) {
+                    Due.is("some test is about '" + number + " " + line + "'", QUOTED.contains(number + " " + line), true);
+                }
+            }
+        }
+    }
+
+    /** What stands below a promise's heading, without the signature and the signs of a list. */
+    private static List<String> linesOf(int promise) {
+        List<String> found = new ArrayList<>();
+        String end = promise == 47 ? "## Not promised" : "## Promise " + (promise + 1) + ":";
+        String text = between("## Promise " + promise + ":", end);
+        for (String line : text.substring(text.indexOf('\n') + 1).split("\n")) {
+            if (!line.isBlank()) {
+                found.add(line.replaceFirst("^- ", "").replaceFirst("^`[^`]*\\([^`]*`: ", ""));
+            }
+        }
+        return found;
+    }
+
     /** What a promise says of its exceptions, in the order of the document: "name: when". */
     static List<String> exceptionsOf(int promise) {
         List<String> found = new ArrayList<>();
-        String end = promise == 47 ? "## Not promised" : "## Promise " + (promise + 1) + ":";
-        for (String line : between("## Promise " + promise + ":", end).split("\n")) {
+        for (String line : linesOf(promise)) {
             if (line.startsWith("Throws `")) {
                 found.add(line.replaceAll("Throws `(\\w+)` (.*)", "$1: $2"));
             }

@@ -1,5 +1,6 @@
 import java.util.ArrayList;
 import java.util.List;
+import java.util.function.Supplier;
 
 /** All that can be seen of a council, as one text. */
 final class Sight {
@@ -58,6 +59,19 @@ final class Sight {
             row.add(x.telling(telling, what));
         }
         return row.toString();
+    }
+
+    /** The signs that a call with 0 and a sign takes; new councils are made, for one is used for 512 calls at most. */
+    static String taken(Supplier<NightfallCouncil> maker, String call) {
+        StringBuilder taken = new StringBuilder();
+        NightfallCouncil x = null;
+        for (int sign = 0; sign < 65536; sign++) {
+            x = sign % 256 == 0 ? maker.get() : x;
+            if (!(Calls.answer(x, call, 0, (char) sign) instanceof String)) {
+                taken.append((char) sign);
+            }
+        }
+        return taken.toString();
     }
 
     static int seats(NightfallCouncil x) {
