@@ -1940,7 +1940,7 @@ public final class NightfallCouncil {
         private static final int LEAST_DUE = 10;
         private static final int EVEN_DUE = 50;
         private static final int MOST_DUE = 90;
-        private static final int NO_MEAN = Integer.MIN_VALUE;
+        private static final int NO_MEAN = -2147483648;
         private final Ring ring;
         private final int[] good;
         private final int[] evil;

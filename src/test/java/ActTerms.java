@@ -121,6 +121,14 @@ final class ActTerms {
         y.night();
         Due.is("not on the day after the next night", "" + y.seat(1, 'p') + Table.execute(y, 0, 1, 0, 2, 3)
                 + y.state(), "01j");
+        NightfallCouncil z = Table.deal(Table.roles("gd5e", "e-0e"), true, true, 0, 0, 0, 0, 0, 0, 0, 1);
+        for (int seat = 0; seat < 7; seat++) {
+            z.act(seat, (seat + 7) % 8, 0);
+        }
+        z.night();
+        Due.is("the first and the last seat, too", Sight.row(z, 'p'), "[1, 1, 1, 1, 1, 1, 0, 1]");
+        z.dusk();
+        Due.is("all are sober again", Sight.row(z, 'p'), "[0, 0, 0, 0, 0, 0, 0, 0]");
     }
 
     private static void protects() {

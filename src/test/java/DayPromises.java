@@ -129,6 +129,11 @@ final class DayPromises {
         Table.closed(x, 0, 1, 4);
         Due.is("one was to be executed", x.veto(6), true);
         Due.is("nobody is", x.dusk(), -1);
+        for (int seat = 0; seat < 8; seat++) {
+            NightfallCouncil each = day();
+            Table.closed(each, 0, seat, 4);
+            Due.is("one of all seats, the first and the last too", "" + each.veto(7) + each.dusk(), "true-1");
+        }
         NightfallCouncil y = day();
         Table.closed(y, 0, 1, 3);
         Due.is("with too few votes", y.veto(6), false);

@@ -12,6 +12,7 @@ final class GamePromises {
         deal();
         gather();
         gatherAtAnyTime();
+        nextGame();
         sit();
         state();
         nights();
@@ -86,6 +87,52 @@ final class GamePromises {
             Table.list(x, true, true, Table.upTo(4), Table.upTo(4));
             Due.is("the next one is as at first", Sight.row(x, 'l') + x.tellings() + x.nights() + x.act(0, 1, 0),
                     "[1, 1, 1, 1]01true");
+        }
+    }
+
+    /** The next game is as if there had been none, whatever was so as the one before was gathered. */
+    private static void nextGame() {
+        String[] one = {"ek5e", "gs6o", "g-0ed", "gd2o", "gx1e", "gn7ev"};
+        String[] other = {"ew3e", "gl2e", "g-0ej", "gh1e", "gk4o", "ec5ev"};
+        for (int calls = 0; calls <= 9; calls++) {
+            for (boolean areTold : new boolean[] {false, true}) {
+                Due.is("after a game of " + calls + " calls", futureOfNext(one, calls, areTold), futureOf(one, areTold));
+                Due.is("after another one", futureOfNext(other, calls, areTold), futureOf(other, areTold));
+            }
+        }
+    }
+
+    /** What a game answers that is dealt after one of as many calls, with other cards for the seats. */
+    private static String futureOfNext(String[] roles, int calls, boolean areTold) {
+        NightfallCouncil x = Table.dealDrunk(Table.roles(roles), true, true, new int[] {5, 4, 3, 2, 1, 0},
+                new int[] {5, 4, 3, 0, 1, 0});
+        play(x, calls);
+        x.gather();
+        return Future.of(Table.list(x, true, true, Table.upTo(6), new int[] {0, 1, 1, 3, 4, 5}), areTold);
+    }
+
+    private static String futureOf(String[] roles, boolean areTold) {
+        return Future.of(Table.dealDrunk(Table.roles(roles), true, true, Table.upTo(6), new int[] {0, 1, 1, 3, 4, 5}), areTold);
+    }
+
+    /** The first calls of a game of six seats. */
+    private static void play(NightfallCouncil x, int calls) {
+        Runnable[] all = {() -> actAll(x), x::night, () -> x.claimRole(1, 2, 0), () -> x.nominate(1, 1), () -> x.vote(0),
+            () -> voteAll(x), x::close, () -> Calls.answerByNumbers(x, "veto", 0), x::dusk};
+        for (int call = 0; call < calls && call < all.length; call++) {
+            all[call].run();
+        }
+    }
+
+    private static void actAll(NightfallCouncil x) {
+        for (int seat = 0; seat < 6; seat++) {
+            Calls.answerByNumbers(x, "act", seat, (seat + 5) % 6, (seat + 2) % 6);
+        }
+    }
+
+    private static void voteAll(NightfallCouncil x) {
+        for (int seat = 0; seat < 6; seat++) {
+            Calls.answerByNumbers(x, "vote", seat);
         }
     }
 

@@ -15,6 +15,7 @@ final class NightPromises {
         act();
         inPlaceOfAnother();
         secondOfNoMeaning();
+        secondOfNoEffect();
         night();
         tellings();
         telling();
@@ -82,6 +83,30 @@ final class NightPromises {
             Due.fails("no target for " + act, x, NOTHING, () -> x.act(0, 1, 2));
             Due.fails("no meaning for " + act, x, NOTHING, () -> x.act(0, 1, 8));
         }
+    }
+
+    /** An act that met the second one, too, would bond, cross or protect it, or change its card. */
+    private static void secondOfNoEffect() {
+        for (char act : "bdpkcsl".toCharArray()) {
+            String due = afterSecond(act, -1);
+            for (int second = 0; second <= 8; second++) {
+                Due.is("after " + act + " with the second one " + second, afterSecond(act, second), due);
+            }
+        }
+        Due.is("who is poisoned is not protected", afterSecond('d', 2).contains("[1, 1, 0, 1, 1, 1]"), true);
+    }
+
+    /** What is seen after a night in which seats 0 and 1 did an act, and seat 2 was attacked, and told of. */
+    private static String afterSecond(char act, int second) {
+        NightfallCouncil x = Table.roles("g" + act + "5e", "ek9e", "g-0e", "gl9e", "g-0e");
+        x.turnInto(0, 4);
+        Table.deal(x, true, true, 0, 0, 2, 3, 1, 2);
+        x.act(0, 2, second);
+        x.act(1, 2, second);
+        x.act(3, 2, 0);
+        x.act(4, 2, 0);
+        x.night();
+        return Sight.row(x, 'l') + Sight.of(x);
     }
 
     private static void night() {

@@ -297,6 +297,13 @@ final class NightTerms {
         x.night();
         Due.is("the target is 5 then, and bonded", Sight.row(x, 'h'), "[-1, -1, -1, -1, 5, 4]");
         Due.is("the second one is not crossed", Sight.row(x, 'c'), "[0, 1, 2, 4, 3, 5]");
+        NightfallCouncil y = Table.game("gx1e", "ew2e", "gk3e", "g-0e", "g-0e", "gh2e");
+        y.act(0, 3, 4);
+        y.act(1, 3, 4);
+        y.act(2, 0, 0);
+        y.act(5, 4, 3);
+        y.night();
+        Due.is("no card was changed, so a dead one's is shown for worlds", y.openWorlds(), 120);
     }
 
     private static void deathsAtDawn() {

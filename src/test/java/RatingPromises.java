@@ -135,6 +135,16 @@ final class RatingPromises {
         x.night();
         Due.is("bonded ones are both dead", "" + x.seat(1, 'l') + x.seat(5, 'l') + x.isSound(), "00true");
         Due.is("and one that is executed", "" + Table.execute(x, 0, 4, 0, 2) + x.isSound(), "4true");
+        NightfallCouncil y = Table.game("e-0e", "gs5e", "gl6e", "g-0e");
+        y.act(1, 0, 0);
+        y.act(2, 3, 0);
+        y.night();
+        Due.is("the sober are told what is so", "" + y.worlds(1) + y.worlds(2) + y.isSound(), "22true");
+        for (int telling = 1; telling >= 0; telling--) {
+            y.slip(telling, 9);
+            Due.is("a wrong telling that nothing licenses", "" + y.firstWrong() + y.worlds(telling + 1) + y.isSound(),
+                    telling + "0true");
+        }
     }
 
     private static void soundInEachState() {

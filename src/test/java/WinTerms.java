@@ -78,6 +78,10 @@ final class WinTerms {
         Due.is("three are living, one was executed", "" + Table.execute(y, 0, 3, 0, 1) + y.living() + y.state(), "33n");
         y.night();
         Due.is("three are living as the day ends", "" + y.dusk() + y.state(), "-1m");
+        NightfallCouncil first = Table.game("g-0e", "e-0e", "g-0em", "g-0e");
+        first.night();
+        Due.is("the first seat was executed", "" + Table.execute(first, 1, 0, 1, 2) + first.living() + first.state(),
+                "03n");
         NightfallCouncil z = Table.game("ek1e", "g-0em", "g-0e", "g-0e");
         z.act(0, 3, 0);
         z.night();

@@ -173,6 +173,11 @@ final class WorldPromises {
         y.register(0, 'g', 1);
         Table.deal(y, true, true, 0, 1, 2);
         Due.is("by the card's own side", "" + y.knows(0, 0) + y.knows(0, 1), "eg");
+        Due.is("evil in one world of two", "" + y.evilChance(1, 0) + y.worlds(1) + y.knows(1, 0) + y.knows(1, 2), "12--");
+        NightfallCouncil z = Table.deal(Table.roles("g-0e", "e-0e"), true, true, 0, 0, 0, 0, 0, 0, 0, 1);
+        Due.is("evil in one world of seven", "" + z.evilChance(0, 7) + z.worlds(0) + z.knows(0, 7), "17-");
+        NightfallCouncil w = Table.deal(Table.roles("e-0e", "g-0e"), true, true, 0, 0, 0, 0, 0, 0, 0, 1);
+        Due.is("good in one world of seven", "" + w.evilChance(0, 7) + w.worlds(0) + w.knows(0, 7), "67-");
     }
 
     private static void bestVote() {

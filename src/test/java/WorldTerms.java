@@ -15,6 +15,7 @@ final class WorldTerms {
         licensedByOthers();
         whatIsSo();
         neighboursThen();
+        neighboursOfAllRings();
         atMost2000Ways();
         claimsOfRolesAndSides();
         claimsByOwnSides();
@@ -183,6 +184,62 @@ final class WorldTerms {
             x.slip(1, 1);
             Due.is("with the number " + number, x.worlds(0), new int[] {2, 4, 2, 0}[number]);
         }
+    }
+
+    /** One evil seat kills the other ones; seats that are told of it know who sat next to them each time. */
+    private static void neighboursOfAllRings() {
+        for (int size = 4; size <= 8; size++) {
+            for (int own = 0; own < size; own++) {
+                for (int evil = 0; evil < size; evil++) {
+                    if (own != evil) {
+                        neighboursOfRing(size, own, evil);
+                    }
+                }
+            }
+        }
+    }
+
+    private static void neighboursOfRing(int size, int own, int evil) {
+        int[] cards = new int[size];
+        cards[own] = 1;
+        cards[evil] = 2;
+        NightfallCouncil x = Table.deal(Table.roles("g-0e", "gn1e", "ek2e"), false, true, cards);
+        boolean[] canBeEvil = new boolean[size];
+        java.util.Arrays.fill(canBeEvil, true);
+        canBeEvil[own] = false;
+        for (int night = 0; x.state() == 'n'; night++) {
+            int left = nextLiving(x, own, size - 1, size);
+            int right = nextLiving(x, own, 1, size);
+            int told = (left == evil ? 1 : 0) + (right == evil ? 1 : 0);
+            x.act(evil, victim(x, own, evil, size), 0);
+            x.night();
+            Due.is("told in a ring of " + size, x.telling(night, 'v'), told);
+            for (int other = 0; other < size; other++) {
+                canBeEvil[other] &= told == (other == left || other == right ? 1 : 0);
+                Due.is("seat " + other + " of " + size + " can be evil for " + own, x.evilChance(own, other),
+                        canBeEvil[other] ? 1 : 0);
+            }
+            if (x.state() == 'd') {
+                x.dusk();
+            }
+        }
+    }
+
+    private static int nextLiving(NightfallCouncil x, int seat, int step, int size) {
+        int next = (seat + step) % size;
+        while (x.seat(next, 'l') == 0) {
+            next = (next + step) % size;
+        }
+        return next;
+    }
+
+    /** The last living seat but these two. */
+    private static int victim(NightfallCouncil x, int own, int evil, int size) {
+        int victim = size - 1;
+        while (victim == own || victim == evil || x.seat(victim, 'l') == 0) {
+            victim--;
+        }
+        return victim;
     }
 
     private static void atMost2000Ways() {
