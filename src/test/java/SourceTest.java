@@ -19,6 +19,8 @@ public final class SourceTest {
     private static final Pattern FACE = Pattern.compile("\n    (public [^;{=]*\\))([^;{]*)[;{]");
     private static final Pattern METHOD = Pattern.compile("\n( {4}| {8})(?! )[^;={}]*\\([^;={}]*\\)[^;={}]*\\{\n"
             + "(.*?\n)\\1\\}\n", Pattern.DOTALL);
+    private static final Pattern CONSTRUCTOR =
+            Pattern.compile("\n +(?:public )?[A-Z]\\w*\\([^;{}]*\\{([^}]*)\\}");
     private static final String[] RULED_OUT = {
         "->", "::", "\\bsynchronized\\b", "\\bassert\\b", "\\bfinally\\b", "\\btry\\b", "\\bcatch\\b",
         "\\bstatic *\\{", "\\binstanceof\\b", "\\bprotected\\b", "\\bpackage\\b", "Exact\\(", "\\byield\\b",
@@ -38,6 +40,7 @@ public final class SourceTest {
         face(source, Files.readString(DOCUMENT));
         words(source, plain);
         exceptions(plain);
+        room(plain);
         methods(source);
         List<Class<?>> classes = new ArrayList<>(List.of(NightfallCouncil.class.getDeclaredClasses()));
         Due.is("classes inside", classes.size() <= MOST_CLASSES, true);
@@ -97,10 +100,20 @@ public final class SourceTest {
             Matcher form = Pattern.compile(" new (\\w+)\\((\"\")?\\)").matcher(thrown.group(1));
             Due.is("throw" + thrown.group(1), form.matches() && EXCEPTIONS.contains(form.group(1)), true);
         }
-        Matcher constructor = Pattern.compile("\n +(?:public )?[A-Z]\\w*\\([^;{}]*\\{([^}]*)\\}").matcher(plain);
+        Matcher constructor = CONSTRUCTOR.matcher(plain);
         while (constructor.find()) {
             Due.is("a constructor throws", constructor.group(1).contains("throw"), false);
         }
+    }
+
+    /** Rule 12: all that a run makes is what its constructors make, and the exceptions that it throws. */
+    private static void room(String plain) {
+        String calls = CONSTRUCTOR.matcher(plain).replaceAll("\n");
+        Due.is("constructors are found", calls.length() < plain.length(), true);
+        Due.is("a call makes an object", Pattern.compile("(?<!\\bthrow )\\bnew\\b").matcher(calls).find(), false);
+        Due.is("a call makes a list or a text",
+                Pattern.compile("\\bList\\b|\\bStringBuilder\\b|\\.clone\\(|\\bcopyOf|\\bsubstring\\(").matcher(calls).find(),
+                false);
     }
 
     /** Rule 11. */
