@@ -1,5 +1,4 @@
 import java.io.File;
-import java.io.IOException;
 import java.net.URL;
 import java.net.URLClassLoader;
 import java.nio.file.Files;
@@ -8,7 +7,6 @@ import java.util.ArrayList;
 import java.util.List;
 import java.util.regex.Matcher;
 import java.util.regex.Pattern;
-import javax.tools.ToolProvider;
 
 /** What README.md says holds: its example answers as told there, and it names all tests and classes that there are. */
 public final class ReadmeTest {
@@ -18,14 +16,14 @@ public final class ReadmeTest {
     private ReadmeTest() {
     }
 
-    public static void main(String[] args) throws IOException, ReflectiveOperationException {
+    public static void main(String[] args) throws Exception {
         String readme = Files.readString(Path.of("README.md"));
         example(readme);
         names(readme);
         Due.end("ReadmeTest");
     }
 
-    private static void example(String readme) throws IOException, ReflectiveOperationException {
+    private static void example(String readme) throws Exception {
         List<String> calls = new ArrayList<>();
         List<Object> due = new ArrayList<>();
         StringBuilder body = new StringBuilder();
@@ -53,7 +51,7 @@ public final class ReadmeTest {
     }
 
     /** Compiles the example's lines, and answers what they add to their answers. */
-    private static List<?> run(String body) throws IOException, ReflectiveOperationException {
+    private static List<?> run(String body) throws Exception {
         Path folder = Files.createTempDirectory("readme");
         Path source = folder.resolve("Example.java");
         Path compiled = folder.resolve("Example.class");
@@ -62,8 +60,8 @@ public final class ReadmeTest {
                     + "public static java.util.List<Object> answers() {\n"
                     + "java.util.List<Object> answers = new java.util.ArrayList<>();\n" + body
                     + "return answers;\n}\n}\n");
-            int failed = ToolProvider.getSystemJavaCompiler().run(null, null, null, "-cp",
-                    System.getProperty("java.class.path"), "-d", folder.toString(), source.toString());
+            int failed = new ProcessBuilder("javac", "-cp", System.getProperty("java.class.path"), "-d",
+                    folder.toString(), source.toString()).inheritIO().start().waitFor();
             Due.is("README.md's example compiles", failed, 0);
             try (URLClassLoader loader = new URLClassLoader(new URL[] {folder.toUri().toURL()})) {
                 return (List<?>) loader.loadClass("Example").getMethod("answers").invoke(null);
