@@ -131,6 +131,13 @@ final class WorldTerms {
         y.act(0, 1, 0);
         y.night();
         Due.is("cards that the bag has not", y.worlds(0), 1);
+        for (char act : "dx".toCharArray()) {
+            NightfallCouncil u = Table.roles("g" + act + "9e", "gs5e", "e-0e", "g-0e");
+            Table.deal(u, true, true, 1, 2, 3, 3);
+            u.act(0, 1, 0);
+            u.night();
+            Due.is("a first role with the act " + act + " that the bag has not", u.worlds(0), 1);
+        }
         NightfallCouncil z = Table.roles("gs5e", "e-0e", "gd9ed", "g-0e");
         Table.dealDrunk(z, true, true, new int[] {0, 1, 2, 3}, new int[] {0, 1, 3, 3});
         z.act(0, 1, 0);
