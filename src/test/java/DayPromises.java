@@ -67,6 +67,18 @@ final class DayPromises {
         z.vote(2);
         Due.fails("a refused one closes nothing", z, NOTHING, () -> z.nominate(0, 4));
         Due.is("the votes go on", "" + z.vote(3) + z.close(), "45");
+        NightfallCouncil six = day();
+        for (int dies = 1; dies <= 2; dies++) {
+            six.dusk();
+            six.act(0, dies, 0);
+            six.night();
+        }
+        six.nominate(0, 5);
+        six.vote(3);
+        six.vote(4);
+        six.vote(5);
+        six.nominate(3, 4);
+        Due.is("three votes of six living seats are enough", six.close(), 5);
     }
 
     private static void vote() {

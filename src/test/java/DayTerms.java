@@ -253,6 +253,18 @@ final class DayTerms {
         Table.list(x, true, true, new int[] {0, 1, 1, 2, 2}, new int[5]);
         x.night();
         Due.is("in the next game again", x.veto(1), false);
+        NightfallCouncil each = Table.deal(Table.roles("e-0ev", "g-0ev"), true, true, 0, 1, 1, 1, 1, 1, 1, 1);
+        for (int seat = 0; seat < 8; seat++) {
+            each.night();
+            for (int before = 0; before < seat; before++) {
+                int spent = before;
+                Due.fails("one that has", each, CANNOT, () -> each.veto(spent));
+            }
+            Due.is("each of eight", each.veto(seat), false);
+            each.dusk();
+        }
+        each.night();
+        Due.fails("the last seat, too", each, CANNOT, () -> each.veto(7));
     }
 
     private static void afterAVeto() {

@@ -20,6 +20,7 @@ final class NightTerms {
         notIfLeftOut();
         crossedInTurn();
         crossedByAllOthers();
+        crossedForEachAct();
         crossingsOfThisNight();
         crossedToTheSecond();
         deathsAtDawn();
@@ -259,6 +260,47 @@ final class NightTerms {
             all.act(seat, seat, (seat + 1) % 8);
         }
         Due.is("eight crossings", all.night(), 0);
+    }
+
+    private static void crossedForEachAct() {
+        NightfallCouncil blocked = crossed("gb1e");
+        Due.is("4 is blocked, not 3", Sight.told(blocked, 's'), "[3]");
+        NightfallCouncil poisoned = crossed("gd1e");
+        Due.is("4 is poisoned, not 3", Sight.row(poisoned, 'p'), "[0, 0, 0, 0, 1]");
+        NightfallCouncil turned = crossed("gc1e");
+        Due.is("4 is turned, not 3", Sight.row(turned, 'c'), "[0, 1, 2, 3, 2]");
+        NightfallCouncil attacked = crossed("gk1e");
+        Due.is("4 is attacked, not 3", Sight.row(attacked, 'l'), "[1, 1, 1, 1, 0]");
+        NightfallCouncil bonded = crossed("gh1e");
+        Due.is("4 is bonded, not 3", Sight.row(bonded, 'h'), "[4, -1, -1, -1, 0]");
+        NightfallCouncil changed = crossed("gw1e");
+        Due.is("4 has another card, not 3", Sight.row(changed, 'c'), "[4, 1, 2, 3, 0]");
+        NightfallCouncil side = crossed("gs1e");
+        Due.is("4 is looked at, and 3 was told", Sight.told(side, 'v') + Sight.told(side, 't'), "[1, 1, 1][3, 0, 0]");
+        NightfallCouncil role = crossed("gl1e");
+        Due.is("the role of 4", Sight.told(role, 'v'), "[4, 1, 1]");
+        NightfallCouncil both = Table.game("ek9e", "gx0e", "gp1e", "g-0e", "g-0e");
+        both.act(0, 3, 0);
+        both.act(1, 3, 4);
+        both.act(2, 3, 0);
+        Due.is("4 is protected, who is attacked", both.night(), 0);
+        NightfallCouncil one = Table.game("ek0e", "gx1e", "gp2e", "g-0e", "g-0e");
+        one.act(0, 3, 0);
+        one.act(1, 3, 4);
+        one.act(2, 4, 0);
+        Due.is("3 is protected, who was attacked ahead of the crossing", one.night(), 0);
+    }
+
+    /** Seat 2 does the act to 3, with 0 as the second one, when seat 1 has crossed 3 and 4, who then look at 0. */
+    private static NightfallCouncil crossed(String role) {
+        NightfallCouncil x = Table.roles("e-0e", "gx0e", role, "gs5e", "es5e");
+        Table.deal(x, true, true, 0, 1, 2, 3, 4);
+        x.act(1, 3, 4);
+        x.act(2, 3, 0);
+        x.act(3, 0, 0);
+        x.act(4, 0, 0);
+        x.night();
+        return x;
     }
 
     private static void crossingsOfThisNight() {

@@ -21,6 +21,7 @@ final class WorldPromises {
         bestVote();
         nobodyToVoteFor();
         leastLiars();
+        oneWorldWithoutLiars();
         claimed();
         bluff();
         bluffOfOthers();
@@ -249,6 +250,24 @@ final class WorldPromises {
         Due.is("what is shown is no lie", y.leastLiars(), 1);
     }
 
+    /** Claims that are so in one world alone, for each world. */
+    private static void oneWorldWithoutLiars() {
+        for (int first = 0; first < 4; first++) {
+            for (int second = 0; second < 4; second++) {
+                for (int third = 0; third < 4; third++) {
+                    boolean isWorld = first != second && first != third && second != third;
+                    NightfallCouncil x = four();
+                    x.claimRole(3, 0, first);
+                    x.claimRole(3, 1, second);
+                    x.claimRole(3, 2, third);
+                    String world = " in the world " + first + second + third;
+                    Due.is("least liars" + world, x.leastLiars(), isWorld ? 0 : 1);
+                    Due.is("claimed" + world, x.claimed(3), isWorld ? 1 : 0);
+                }
+            }
+        }
+    }
+
     private static void claimed() {
         Doc.promise(36, "Returns in how many open worlds all claims of a seat are so.", "Returns how many.");
         NightfallCouncil x = four();
@@ -303,6 +322,16 @@ final class WorldPromises {
         Due.fails("what is claimed is in no open world", x, NOTHING, () -> x.bluff(0));
         Table.execute(x, 1, 1, 2, 3);
         Due.fails("a shown evil one", x, NOTHING, () -> x.bluff(1));
+        NightfallCouncil y = Table.roles("g-0e", "ek5e", "g-0e", "g-0e");
+        Table.deal(y, true, true, 0, 1, 2, 3);
+        y.act(1, 3, 0);
+        y.night();
+        Due.is("the last seat is shown", "" + y.bluff(0) + y.bluff(1) + y.bluff(2) + y.bluff(3), "0003");
+        y.claimRole(0, 1, 0);
+        y.claimRole(1, 0, 0);
+        y.claimRole(2, 0, 2);
+        y.claimRole(3, 2, 0);
+        Due.is("claims in the open worlds", "" + y.bluff(0) + y.bluff(1) + y.bluff(2) + y.bluff(3), "2203");
     }
 
     private static void meanWorlds() {
